@@ -656,7 +656,6 @@ public final class FaultRips {
             }
         }
 
-        /** Only a greater entry replaces one: of equal pieces that with the least number stays. */
         private void laySort(Sort sort, int upward) {
             long[] table = tables[0];
             for (int steps = sort.leastSteps; steps <= sort.mostSteps; steps++) {
@@ -770,6 +769,7 @@ public final class FaultRips {
             return NONE;
         }
 
+        /** The first piece whose entry is that of the table: of equal ones that with the least number. */
         private void layPiece(Plan into, int x0, int x1, int y0, int y1) {
             int across = spanOf(x0, x1);
             int upward = spanOf(y0, y1);

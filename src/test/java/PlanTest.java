@@ -9,6 +9,7 @@ public final class PlanTest {
         fewestPieces();
         longerFirst();
         ownBest();
+        wholeBoard();
         leastNumber();
         at();
         clear2();
@@ -116,6 +117,17 @@ public final class PlanTest {
         y.fault(0, 0, 0, 0, 1, 1);
         y.fault(0, 0, 0, 30, 1, 1);
         check.same("faults above and below", cut(y, 0, 2), "4 0,1,4,2:0");
+    }
+
+    private static void wholeBoard() {
+        FaultRips x = new FaultRips(100, 240, 10);
+        x.piece(100, 240, 240, 100000);
+        for (int stages = 1; stages <= 3; stages++) {
+            check.same("ripped", cut(x, 0, stages), "2400000 0,0,24,10:0");
+            check.same("crosscut", cut(x, 1, stages), "2400000 0,0,24,10:0");
+        }
+        x.gang(100);
+        check.same("the gang's greatest width", cut(x, 0, 1), "2400000 0,0,24,10:0");
     }
 
     private static void leastNumber() {

@@ -9,6 +9,7 @@ public final class PricesTest {
         nearPrices();
         settledByPrice();
         settledAtOnce();
+        earliest();
         takenOff();
         needOfNone();
         cutAsLatestRun();
@@ -116,6 +117,23 @@ public final class PricesTest {
         check.same("fewer at price 0", x.prices(6), 1);
         check.same("all of it", x.worth(), 20);
         check.same("bound without price", x.bound(), 20);
+    }
+
+    /** Rounds 3 and 4 end in piece 2, round 5 in piece 0, at as much worth. */
+    private static void earliest() {
+        FaultRips x = new FaultRips(10, 30, 10);
+        x.piece(10, 10, 20, 300);
+        x.piece(10, 10, 20, 400);
+        x.piece(10, 10, 20, 300);
+        x.need(0, 1);
+        x.need(1, 1);
+        check.same("ends in the fifth round", x.prices(6), 5);
+        check.same("the earliest plan", Check.pieces(x), "0,0,2,1:1 2,0,1,1:2");
+        check.same("worth", x.worth(), 1100);
+        check.same("bound", x.bound(), 1100);
+        check.yes("greatest", x.greatest());
+        check.same("last round's price of 0", x.price(0, 0), 0);
+        check.same("last round's price of 1", x.price(1, 0), 128);
     }
 
     /** Of two sorts with a NEED only that with too many loses pieces, its latest by the plan's order. */

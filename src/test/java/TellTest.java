@@ -224,6 +224,10 @@ public final class TellTest {
         y.fault(0, 0, 0, 0, 1, 1);
         y.run(0, 1);
         check.same("waste steps need no saws", Check.pieces(y), "0,1,4,2:1 0,3,4,2:1");
+        FaultRips w = new FaultRips(10, 10, 1);
+        check.yes("the greatest number of steps", w.gang(65536));
+        check.no("the greatest number of steps again", w.gang(65536));
+        check.yes("one step fewer", w.gang(65535));
         FaultRips z = new FaultRips(50, 40, 10);
         z.piece(10, 40, 40, 1);
         z.gang(60);
