@@ -22,7 +22,6 @@ public final class FaultRips {
     /** An axis is named by the way that cuts along it: y is RIPPED, x is CROSSCUT. */
     private static final int RIPPED = 0;
     private static final int CROSSCUT = 1;
-    private static final int AXES = 2;
 
     /** What at() can be asked of a piece, and salvage() of a row. */
     private static final int PIECE_FACTS = 6;

@@ -72,12 +72,19 @@ public final class PanelTest {
 
     private static void everySet() {
         for (int seed = 1; seed < 40; seed++) {
-            FaultRips x = someBoard(seed);
-            int n = x.at(FaultRips.NONE, 0);
-            for (int width = 1; width <= 24 && n <= 14; width++) {
-                check.same("seed " + seed + " width " + width, panel(x, width), bestSet(x, n, width));
+            int[] wide = widths(someBoard(seed));
+            for (int width = 1; width <= 24 && wide.length <= 14; width++) {
+                check.same("seed " + seed + " width " + width, panel(someBoard(seed), width), bestSet(wide, width));
             }
         }
+    }
+
+    private static int[] widths(FaultRips x) {
+        int[] wide = new int[x.at(FaultRips.NONE, 3)];
+        for (int i = 0; i < wide.length; i++) {
+            wide[i] = x.at(i, 3);
+        }
+        return wide;
     }
 
     private static FaultRips someBoard(int seed) {
@@ -92,15 +99,15 @@ public final class PanelTest {
         return x;
     }
 
-    private static String bestSet(FaultRips x, int n, int width) {
+    private static String bestSet(int[] wide, int width) {
         List<Integer> best = null;
-        for (int set = 1; set < 1 << n; set++) {
+        for (int set = 1; set < 1 << wide.length; set++) {
             List<Integer> members = new ArrayList<>();
             int sum = 0;
-            for (int i = 0; i < n; i++) {
+            for (int i = 0; i < wide.length; i++) {
                 if ((set >> i & 1) == 1) {
                     members.add(i);
-                    sum += x.at(i, 3);
+                    sum += wide[i];
                 }
             }
             if (sum == width && (best == null || isBetter(members, best))) {
