@@ -354,6 +354,8 @@ public final class EdgesTest {
         x.run(1, 2);
         x.prices(1);
         check.same("crosscut, two", Check.pieces(x), crosscuts);
+        x.prices(6);
+        check.same("prices() itself is no run()", Check.pieces(x), crosscuts);
         x.run(0, 1);
         x.run(1, 3);
         x.prices(6);
