@@ -19,6 +19,7 @@ public final class EdgesTest {
         allowsAtItsEdges();
         gangAtItsEdges();
         gangOfAsMany();
+        gangOfManyWidths();
         needAtItsEdges();
         marginAtItsEdges();
         bowAtItsEdges();
@@ -38,6 +39,7 @@ public final class EdgesTest {
         panelAtItsEdges();
         panelFewest();
         panelLeastNumbers();
+        panelOfGreatNumbers();
         panelOfThePlan();
         greatestOrNot();
         check.end("EdgesTest");
@@ -251,6 +253,19 @@ public final class EdgesTest {
             check.no("again " + width, y.gang(width));
         }
         check.yes("5 is none of them", y.gang(5));
+    }
+
+    /** Promise 5: each number of steps is one of its own, however many were told. */
+    private static void gangOfManyWidths() {
+        for (int first : new int[] {1, 1000, 65281}) {
+            FaultRips x = new FaultRips(10, 10, 1);
+            for (int width = first; width < first + 256; width++) {
+                check.yes("width " + width, x.gang(width));
+            }
+            for (int width = first; width < first + 256; width++) {
+                check.no("again " + width, x.gang(width));
+            }
+        }
     }
 
     /** Promise 6: 0 .. 1000. */
@@ -620,6 +635,21 @@ public final class EdgesTest {
         check.same("3 and the first 1, not 2 and 2", panel(x, 4), "0 1");
         check.same("3, 1, 2, not 1, 2, 2, 1", panel(x, 6), "0 1 2");
         check.same("3, 2, 2", panel(x, 7), "0 2 3");
+    }
+
+    /** 105 pieces of two steps and, behind them, six of four: the fewest have the greatest numbers. */
+    private static void panelOfGreatNumbers() {
+        FaultRips x = new FaultRips(100, 240, 10);
+        x.piece(20, 10, 10, 1);
+        x.piece(40, 10, 10, 1);
+        x.fault(0, 1, 210, 0, 30, 100);
+        x.allows(1, 0, 1);
+        check.same("pieces", x.run(1, 2), 111);
+        check.same("one of four", panel(x, 4), "105");
+        check.same("four and four", panel(x, 8), "105 106");
+        check.same("all six", panel(x, 24), "105 106 107 108 109 110");
+        check.same("the least of two steps with six", panel(x, 26), "0 105 106 107 108 109 110");
+        check.same("none of an odd width", panel(x, 25), "");
     }
 
     /** Promise 17: "out of pieces of the plan", also of a plan whose pieces were taken off. */

@@ -27,6 +27,7 @@ public final class TermsTest {
         byThreeStages();
         noFourthStage();
         noPieceAtLeast();
+        singleStepsOfWaste();
         worthMost();
         fewestPieces();
         longerSegment();
@@ -446,6 +447,26 @@ public final class TermsTest {
         cut("WASTE at the begin", x, 0, 2, "4 0,3,4,2:0");
         x.fault(0, 0, 0, 40, 1, 1);
         cut("WASTE all over", x, 0, 3, "0 ");
+    }
+
+    /** "or single steps that are WASTE": two of them are no longer segment, so that the piece begins behind the first. */
+    private static void singleStepsOfWaste() {
+        FaultRips x = row(5);
+        x.piece(10, 20, 20, 1);
+        x.fault(0, 0, 5, 5, 1, 1);
+        x.fault(0, 0, 45, 5, 1, 1);
+        for (int stages = 1; stages <= 3; stages++) {
+            cut("crosscut in " + stages, x, 1, stages, "2 1,0,2,1:0");
+        }
+        cut("ripped in two", x, 0, 2, "2 1,0,2,1:0");
+        FaultRips y = new FaultRips(50, 10, 10);
+        y.piece(20, 10, 10, 1);
+        y.fault(0, 0, 5, 5, 1, 1);
+        y.fault(0, 0, 5, 45, 1, 1);
+        for (int stages = 1; stages <= 3; stages++) {
+            cut("ripped in " + stages, y, 0, stages, "1 0,1,1,2:0");
+        }
+        cut("crosscut in two", y, 1, 2, "1 0,1,1,2:0");
     }
 
     /** "The BEST one is worth most (by WORTH times steps of length of all its pieces)". */
