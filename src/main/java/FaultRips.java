@@ -742,13 +742,12 @@ public final class FaultRips {
             int begin = ripped ? y0 : x0;
             while (begin < end) {
                 int cut = segmentEnd(level, other, begin, end);
-                if (cut == NONE) {
-                    begin++;
-                } else {
+                if (cut > begin) {
                     layPlan(into, level - 1, ripped ? x0 : begin, ripped ? x1 : cut,
                             ripped ? begin : y0, ripped ? cut : y1);
-                    begin = cut;
                 }
+                // Behind NONE this is the single step of WASTE; either way the loop goes on, so that it ends.
+                begin = Math.max(begin + 1, cut);
             }
         }
 
